@@ -5,7 +5,7 @@ public final class FramesTest {
         noiseSpoilsEveryThird();
         noiseWaitsForAFrame();
         noiseKeepsWhatWentBy();
-        noiseSpoilsACheckOf255();
+        noiseSpoilsEveryCheck();
         noiseDoesNotSpoilFrame();
         ordersAreRanked();
         orderRefuses();
@@ -91,14 +91,20 @@ public final class FramesTest {
         Due.is("count(0)", x.count(0), 14);
     }
 
-    private static void noiseSpoilsACheckOf255() {
-        LocoFrames x = new LocoFrames();
-        x.noise(1);
-        x.pass(1);
-        x.order(0, 255, 0);
-        x.order(85, 170, 0);
-        x.pass(2);
-        Due.is("checks that become 0 are not whole", x.count(5), 2);
+    private static void noiseSpoilsEveryCheck() {
+        for (int first = 0; first < 256; first += 16) {
+            LocoFrames x = new LocoFrames();
+            x.loco(1, 1, 0, 0);
+            x.noise(1);
+            x.pass(1);
+            for (int check = first; check < first + 16; check++) {
+                x.order(0, check, 0);
+            }
+            Due.is("checks from " + first + ": pass(16)", x.pass(16), 16);
+            Due.is("checks from " + first + ": spoiled", x.count(6), 16);
+            Due.is("checks from " + first + ": not whole", x.count(5), 16);
+            Due.is("checks from " + first + ": heard", x.of(1, 10), 0);
+        }
     }
 
     private static void noiseDoesNotSpoilFrame() {

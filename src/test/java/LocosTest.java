@@ -61,7 +61,9 @@ public final class LocosTest {
         }
         x.frame(7, 20, 7 ^ 20);
         x.frame(7, 66, 7 ^ 66);
-        x.pass(30);
+        x.pass(99);
+        // Speeds 3, 6 and so on to 258 in 86 ticks, and 13 times 258 more: 14577 tenths back from 799.
+        Due.is("it went round", x.of(7, 11), 999);
         x.lift(7);
         x.loco(7, 1, LocoFrames.EVEN, 0);
         int[] again = {1, 0, 0, 0, 1000, 1000, 0, 1, 0, 0, 0, 1000};

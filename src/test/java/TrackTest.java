@@ -23,6 +23,7 @@ public final class TrackTest {
         x.pass(1);
         Due.is("block(0, 0)", x.block(0, 0), 98);
         Due.is("block(7, 0)", x.block(7, 0), 1);
+        Due.is("count(7) with one that lasts a tick", x.count(7), 2);
         Due.is("shorts(0, 5) in place of it", x.shorts(0, 5), 98);
         x.pass(1);
         Due.is("block(7, 0) then", x.block(7, 0), 0);

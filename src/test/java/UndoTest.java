@@ -5,6 +5,8 @@ public final class UndoTest {
         changesThatChangeNothing();
         questionsAreNoChanges();
         sixStatesAreKept();
+        errorsDropNoState();
+        roundsAreBroughtBack();
         undoKeepsPadAndSlots();
         undoBringsBackWhatWentByForNoise();
         saveAndRestore();
@@ -111,6 +113,42 @@ public final class UndoTest {
         Due.is("count(0)", x.count(0), 56);
         Due.is("undo()", x.undo(), 0);
         Due.is("count(0)", x.count(0), 6);
+    }
+
+    private static void errorsDropNoState() {
+        LocoFrames x = new LocoFrames();
+        for (int i = 1; i <= 8; i++) {
+            x.pass(i);
+        }
+        x.pass(0);
+        x.loco(0, 0, 0, 0);
+        x.lift(5);
+        x.noise(10);
+        x.order(0, 0, 4);
+        x.frame(256, 0, 0);
+        x.shorts(8, 0);
+        x.carryOut();
+        x.restore(0);
+        int[] ticks = {28, 21, 15, 10, 6, 3};
+        for (int i = 0; i < 6; i++) {
+            Due.is("behind errors: undo() " + i, x.undo(), 5 - i);
+            Due.is("behind errors: count(0) " + i, x.count(0), ticks[i]);
+        }
+    }
+
+    private static void roundsAreBroughtBack() {
+        LocoFrames x = new LocoFrames();
+        x.loco(1, 1, LocoFrames.EVEN, 790);
+        x.frame(1, 156, 157);
+        x.save(0);
+        x.pass(40);
+        Due.is("two rounds", x.of(1, 11), 1002);
+        x.pass(60);
+        Due.is("four rounds", x.of(1, 11), 1004);
+        x.undo();
+        Due.is("two rounds again", x.of(1, 11), 1002);
+        x.restore(0);
+        Due.is("none, restored", x.of(1, 11), 1000);
     }
 
     private static void undoKeepsPadAndSlots() {
