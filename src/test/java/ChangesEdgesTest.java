@@ -11,6 +11,7 @@ public final class ChangesEdgesTest {
         locoRefusesALikeOne();
         locoRefusesANinth();
         locosAreKeptByAddress();
+        aNewLocoHasNothingOfAnOldOne();
         liftTakes();
         liftRefuses();
         noiseTakes();
@@ -141,6 +142,30 @@ public final class ChangesEdgesTest {
             Due.is("no fifth", x.address(4), LocoFrames.NO_SUCH);
             Due.is("lift(" + address + ")", x.lift(address), 3);
             Due.same("as before, without " + address, Due.seen(x), Due.seen(y));
+        }
+    }
+
+    /** At rest, forwards, and nothing heard, also where one was that went round, and was lifted. */
+    private static void aNewLocoHasNothingOfAnOldOne() {
+        for (int address = 7; address <= 8; address++) {
+            LocoFrames x = new LocoFrames();
+            x.loco(7, 8, LocoFrames.FAST, 5);
+            x.frame(7, 28, 7 ^ 28);
+            x.frame(7, 67, 7 ^ 67);
+            x.pass(98);
+            x.frame(7, 5, 7 ^ 5);
+            x.pass(1);
+            // By 7 in a tick: 5740 tenths in 40 ticks, 58 times 280 more, and 273: from 50 to -22203.
+            Due.is("it went round", x.of(7, 11), 997);
+            Due.is("it is between two places", x.of(7, 3), 7);
+            x.lift(7);
+            x.loco(address, 3, LocoFrames.SLOW, 640);
+            int[] due = {3, 1, 640, 0, 1000, 1000, 0, 1, 0, 6, 0, 1000};
+            for (int what = 0; what < 12; what++) {
+                Due.is("of(" + address + ", " + what + ")", x.of(address, what), due[what]);
+            }
+            x.pass(1);
+            Due.is("it stands", x.of(address, 2), 640);
         }
     }
 

@@ -59,14 +59,16 @@ final class Due {
         for (int block = 0; block < 8; block++) {
             all.append(x.block(block, 0)).append(' ').append(x.block(block, 1)).append(' ');
         }
-        for (int rank = 0; rank < x.count(1); rank++) {
+        int locos = x.count(1);
+        for (int rank = 0; rank < locos; rank++) {
             int address = x.address(rank);
             all.append("| ").append(address).append(' ');
             for (int what = 0; what < 12; what++) {
                 all.append(x.of(address, what)).append(' ');
             }
         }
-        for (int rank = 0; rank < x.count(2); rank++) {
+        int orders = x.count(2);
+        for (int rank = 0; rank < orders; rank++) {
             all.append("; ");
             for (int what = 0; what < 3; what++) {
                 all.append(x.waiting(rank, what)).append(' ');

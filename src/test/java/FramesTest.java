@@ -8,7 +8,6 @@ public final class FramesTest {
         noiseSpoilsEveryCheck();
         noiseDoesNotSpoilFrame();
         ordersAreRanked();
-        orderRefuses();
         ordersGoOneInATick();
         frameIsHeard();
         everyDatum();
@@ -132,27 +131,6 @@ public final class FramesTest {
             Due.is("waiting(" + rank + ", 2)", x.waiting(rank, 2), urgencies[ranked[rank]]);
         }
         Due.is("count(2)", x.count(2), 8);
-    }
-
-    private static void orderRefuses() {
-        LocoFrames x = new LocoFrames();
-        Due.is("the least of all", x.order(0, 0, 0), 1);
-        Due.is("the greatest of all", x.order(99, 255, 3), 2);
-        String before = Due.whole(x);
-        int[][] bad = {{-1, 0, 0}, {100, 0, 0}, {0, -1, 0}, {0, 256, 0}, {0, 0, -1}, {0, 0, 4},
-            {Integer.MIN_VALUE, 0, 0}, {0, Integer.MAX_VALUE, 0}};
-        for (int[] b : bad) {
-            String call = "order(" + b[0] + ", " + b[1] + ", " + b[2] + ")";
-            Due.refused(x, before, call, x.order(b[0], b[1], b[2]), LocoFrames.BAD_VALUE);
-        }
-        for (int i = 3; i <= 20; i++) {
-            Due.is("order number " + i, x.order(1, 1, 1), i);
-        }
-        before = Due.whole(x);
-        Due.refused(x, before, "order number 21", x.order(1, 1, 3), LocoFrames.TOO_MANY);
-        Due.refused(x, before, "order number 21, urgency 4", x.order(1, 1, 4), LocoFrames.BAD_VALUE);
-        Due.is("waiting(19, 0)", x.waiting(19, 0), 0);
-        Due.is("waiting(20, 0)", x.waiting(20, 0), LocoFrames.NO_SUCH);
     }
 
     private static void ordersGoOneInATick() {

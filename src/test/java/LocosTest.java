@@ -4,8 +4,6 @@ public final class LocosTest {
         newObject();
         locosAreCountedAndRanked();
         aNewLocoIsAtRestForwards();
-        locoRefuses();
-        locoErrorsInTheirOrder();
         liftTakesAway();
         liftRefuses();
         ofTellsEverything();
@@ -71,33 +69,6 @@ public final class LocosTest {
             Due.is("put again: of(7, " + what + ")", x.of(7, what), again[what]);
         }
         Due.is("a frame hears no loco that comes later", x.of(7, 10), 0);
-    }
-
-    private static void locoRefuses() {
-        LocoFrames x = new LocoFrames();
-        Due.is("the least of all", x.loco(1, 1, 0, 0), 1);
-        Due.is("the greatest of all", x.loco(99, 20, 2, 799), 2);
-        String before = Due.whole(x);
-        int[][] bad = {{0, 1, 0, 0}, {100, 1, 0, 0}, {-1, 1, 0, 0}, {2, 0, 0, 0}, {2, 21, 0, 0}, {2, 1, -1, 0},
-            {2, 1, 3, 0}, {2, 1, 0, -1}, {2, 1, 0, 800}, {Integer.MIN_VALUE, 1, 0, 0}, {2, Integer.MAX_VALUE, 0, 0}};
-        for (int[] b : bad) {
-            String call = "loco(" + b[0] + ", " + b[1] + ", " + b[2] + ", " + b[3] + ")";
-            Due.refused(x, before, call, x.loco(b[0], b[1], b[2], b[3]), LocoFrames.BAD_VALUE);
-        }
-        Due.refused(x, before, "loco(99) again", x.loco(99, 3, 1, 5), LocoFrames.NOT_POSSIBLE);
-    }
-
-    private static void locoErrorsInTheirOrder() {
-        LocoFrames x = new LocoFrames();
-        for (int address = 11; address < 19; address++) {
-            x.loco(address, 5, 0, 0);
-        }
-        String before = Due.whole(x);
-        Due.refused(x, before, "a ninth", x.loco(20, 5, 0, 0), LocoFrames.TOO_MANY);
-        Due.refused(x, before, "a ninth, like one", x.loco(13, 5, 0, 0), LocoFrames.NOT_POSSIBLE);
-        Due.refused(x, before, "a ninth, like one, place 800", x.loco(13, 5, 0, 800), LocoFrames.BAD_VALUE);
-        x.lift(13);
-        Due.is("one in the room left", x.loco(20, 5, 0, 0), 8);
     }
 
     private static void liftTakesAway() {

@@ -10,10 +10,12 @@ import java.util.regex.Pattern;
  */
 public final class ModelTest {
     private static final int RUNS = 400;
-    private static final int CALLS = 512;
+    /** With a last text of up to three calls and the counts at the end, 512. */
+    private static final int CALLS = 512 - 14;
     private static final int[] ODD = {-1, Integer.MIN_VALUE, Integer.MAX_VALUE, 100, 256, 800, 1000};
 
     private static long seed;
+    private static int called;
 
     public static void main(String[] args) {
         int errors = 0;
@@ -30,8 +32,9 @@ public final class ModelTest {
         Model m = new Model();
         int errors = 0;
         int style = run % 4;
-        for (int call = 0; call < CALLS; call++) {
-            String name = "run " + run + ", call " + call + ": ";
+        called = 0;
+        while (called < CALLS) {
+            String name = "run " + run + ", call " + called + ": ";
             errors += step(x, m, name, style) < 0 ? 1 : 0;
         }
         for (int what = 0; what < 12; what++) {
@@ -114,6 +117,7 @@ public final class ModelTest {
             all.append(i > 0 ? ", " : "").append(arguments[i]);
         }
         Due.is(all.append(')').toString(), got, due);
+        called++;
         return got;
     }
 
@@ -177,6 +181,7 @@ public final class ModelTest {
         } else if (dice == 12) {
             long odd = seed << any(40) >>> any(64);
             Due.is(name + "put(" + odd + ")", x.put(odd), m.put(odd));
+            called++;
             return 0;
         }
         String piece = (m.pad.length() == 0 ? "" : ";") + someOrder();
@@ -189,6 +194,7 @@ public final class ModelTest {
             long packed = Due.packed(piece.substring(from, Math.min(piece.length(), from + 8)));
             answer = x.put(packed);
             Due.is(name + "put of " + piece, answer, m.put(packed));
+            called++;
         }
         return answer;
     }

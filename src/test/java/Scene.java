@@ -1,3 +1,4 @@
+import java.util.function.Supplier;
 import java.util.function.ToLongFunction;
 
 /**
@@ -90,10 +91,15 @@ enum Scene {
     }
 
     void refusedHere(String call, ToLongFunction<LocoFrames> called, long due) {
+        refusedBy(this::made, this + ": " + call, called, due);
+    }
+
+    /** Each view is had of an object of its own, so that none of them is used for more than 512 calls. */
+    static void refusedBy(Supplier<LocoFrames> maker, String call, ToLongFunction<LocoFrames> called, long due) {
         for (int view = 0; view < VIEWS; view++) {
-            LocoFrames x = made();
-            Due.is(this + ": " + call, called.applyAsLong(x), due);
-            Due.same(this + ": the object after " + call, viewed(x, view), viewed(made(), view));
+            LocoFrames x = maker.get();
+            Due.is(call, called.applyAsLong(x), due);
+            Due.same("the object after " + call, viewed(x, view), viewed(maker.get(), view));
         }
     }
 
@@ -117,17 +123,25 @@ enum Scene {
         }
     }
 
-    private static String past(LocoFrames x) {
+    /** All states that undo() goes back to, and its answers, to the first one that is an error. */
+    static String past(LocoFrames x) {
         StringBuilder all = new StringBuilder();
-        for (int i = 0; i < 7; i++) {
-            all.append(x.undo()).append(": ");
-            for (int what = 0; what < 10; what++) {
-                all.append(x.count(what)).append(' ');
-            }
-            for (int rank = 0; rank < 8; rank++) {
-                int address = x.address(rank);
-                all.append(address).append(' ').append(x.of(address, 2)).append(' ').append(x.of(address, 10)).append(' ');
-            }
+        int left = x.count(11);
+        for (int i = 0; i <= left; i++) {
+            all.append(x.undo()).append(": ").append(brief(x));
+        }
+        return all.toString();
+    }
+
+    /** Much of what Due.seen() tells, in at most 34 calls. */
+    static String brief(LocoFrames x) {
+        StringBuilder all = new StringBuilder();
+        for (int what = 0; what < 10; what++) {
+            all.append(x.count(what)).append(' ');
+        }
+        for (int rank = 0; rank < 8; rank++) {
+            int address = x.address(rank);
+            all.append(address).append(' ').append(x.of(address, 2)).append(' ').append(x.of(address, 10)).append(' ');
         }
         return all.toString();
     }

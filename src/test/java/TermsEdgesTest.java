@@ -17,6 +17,7 @@ public final class TermsEdgesTest {
         aCheckThatIsOffByABit();
         everyDatumFromTheOtherWay();
         theLastStepAndWhatIsBehindIt();
+        aStopAtOnceEitherWay();
         noiseOfEveryNumber();
         noise0SpoilsNothing();
         noiseSinceTheBeginning();
@@ -26,6 +27,7 @@ public final class TermsEdgesTest {
         aShortOfOneTick();
         aShortAtTheEndsOfItsBlock();
         aShortFromTheTickOn();
+        aShortKeepsTheTenths();
         Due.end();
     }
 
@@ -261,6 +263,35 @@ public final class TermsEdgesTest {
         }
     }
 
+    /** The step is 0, and the speed is 0, too; all else stays, and it goes on from there. */
+    private static void aStopAtOnceEitherWay() {
+        for (int way = 0; way <= 1; way++) {
+            LocoFrames x = new LocoFrames();
+            x.loco(1, 11, LocoFrames.EVEN, 400);
+            sent(x, 1, 128 * way + 28);
+            sent(x, 1, 66);
+            x.pass(6);
+            int[] due = new int[12];
+            for (int what = 0; what < 12; what++) {
+                due[what] = x.of(1, what);
+            }
+            Due.is("way " + way + ": it goes", due[4], way == 1 ? 1030 : 970);
+            Due.is("way " + way + ": it is between two places", due[3] > 0 ? 1 : 0, 1);
+            due[4] = 1000;
+            due[5] = 1000;
+            due[6] = 0;
+            due[10]++;
+            Due.is("way " + way + ": frame", x.frame(1, 31, 30), 1);
+            for (int what = 0; what < 12; what++) {
+                Due.is("way " + way + ", stopped: of(1, " + what + ")", x.of(1, what), due[what]);
+            }
+            x.pass(3);
+            for (int what = 0; what < 12; what++) {
+                Due.is("way " + way + ", it stands: of(1, " + what + ")", x.of(1, what), due[what]);
+            }
+        }
+    }
+
     /** With a frame in each tick, those of the ticks n, 2 * n and so on are spoiled. */
     private static void noiseOfEveryNumber() {
         for (int number = 1; number <= 9; number++) {
@@ -420,6 +451,7 @@ public final class TermsEdgesTest {
         x.order(1, 128 + 1, 0);
         x.pass(1);
         Due.is("it is stopped", x.of(1, 4), 1000);
+        Due.is("its goal stays", x.of(1, 5), 1060);
         Due.is("it stands where it was", x.of(1, 2), 456);
         Due.is("it did not hear", x.of(1, 10), 1);
         Due.is("the short is gone", x.block(4, 0), 0);
@@ -492,5 +524,23 @@ public final class TermsEdgesTest {
             Due.is("none is left of " + ticks, z.block(0, 0), 0);
             Due.is("no block with a short", z.count(7), 0);
         }
+    }
+
+    private static void aShortKeepsTheTenths() {
+        LocoFrames x = new LocoFrames();
+        x.loco(1, 7, LocoFrames.SLOW, 450);
+        sent(x, 1, 128 + 8);
+        x.pass(2);
+        // SLOW 8 is 22; speeds 8 and 16.
+        Due.is("two ticks: place", x.of(1, 2), 452);
+        Due.is("two ticks: tenths", x.of(1, 3), 4);
+        x.shorts(4, 3);
+        x.pass(3);
+        Due.is("three in a short: speed", x.of(1, 4), 1000);
+        Due.is("three in a short: place", x.of(1, 2), 452);
+        Due.is("three in a short: tenths", x.of(1, 3), 4);
+        x.pass(1);
+        Due.is("one more: place", x.of(1, 2), 453);
+        Due.is("one more: tenths", x.of(1, 3), 2);
     }
 }

@@ -1,3 +1,5 @@
+import java.util.function.Supplier;
+
 /** The boundary cases of the promises 18 to 21 and of the Texts: put, wipe, fault, carryOut. */
 public final class TextsEdgesTest {
     /** Where a number stands: what is before it, and what makes a right text of it. */
@@ -119,13 +121,12 @@ public final class TextsEdgesTest {
 
     /** Promise 19. */
     private static void wipeOfEveryLength() {
-        LocoFrames x = new LocoFrames();
         for (int length = 0; length <= 80; length++) {
-            Due.write(x, Due.repeated("s", length));
+            LocoFrames x = with(Due.repeated("s", length));
             Due.is("wipe()", x.wipe(), length);
             Due.is("empty then", x.count(10), 0);
+            Due.is("wipe() of the empty pad", x.wipe(), 0);
         }
-        Due.is("wipe() of the empty pad", x.wipe(), 0);
         for (Scene scene : Scene.values()) {
             LocoFrames y = scene.made();
             int length = y.count(10);
@@ -330,17 +331,16 @@ public final class TextsEdgesTest {
         String[] bad = {"", "t", "t1;", "t1;x", "t1;t1000", "o1:1!4", "s8*1", "t01", "t1;t1;t1;", "s1*1;o1:1!3;f1,1,1x"};
         for (String text : bad) {
             for (Scene scene : Scene.values()) {
-                LocoFrames x = scene.made();
-                x.wipe();
-                Due.write(x, text);
-                String before = Due.whole(x);
-                Due.refused(x, before, scene + ": carryOut() of " + text, x.carryOut(), LocoFrames.BAD_TEXT);
-                Due.is("the pad stays", x.count(10), text.length());
-                Due.is("what can be undone stays", x.count(11), scene.made().count(11));
-                x.undo();
-                LocoFrames y = scene.made();
-                y.undo();
-                Due.same("the state before stays", Due.seen(x), Due.seen(y));
+                Supplier<LocoFrames> maker = () -> {
+                    LocoFrames x = scene.made();
+                    x.wipe();
+                    Due.write(x, text);
+                    return x;
+                };
+                Scene.refusedBy(maker, scene + ": carryOut() of " + text, LocoFrames::carryOut, LocoFrames.BAD_TEXT);
+                LocoFrames y = maker.get();
+                y.carryOut();
+                Due.is("the pad stays", y.count(10), text.length());
             }
         }
     }

@@ -2,7 +2,6 @@
 public final class TextsTest {
     public static void main(String[] args) {
         putAppends();
-        putRefuses();
         putUpTo80();
         wipeEmpties();
         faultsOfEachOrder();
@@ -33,19 +32,6 @@ public final class TextsTest {
         Due.is("count(0)", x.count(0), 15);
         Due.is("put the least character", x.put(33), 1);
         Due.is("put the greatest one, eight times", x.put(0x7e7e7e7e7e7e7e7eL), 9);
-    }
-
-    private static void putRefuses() {
-        LocoFrames x = with("t12");
-        String before = Due.whole(x);
-        long[] bad = {0, -1, 32, 127, 128, 255, 0x7400, 0x740000000031L, 0x7400000000000031L, 0x2000000000000000L,
-            0x7431317f, 0x2074, 0x7420, 0xff74L, 0x8031313131313131L, 0x3131313131313120L, 1L << 63, 1L << 8};
-        for (long characters : bad) {
-            Due.refused(x, before, "put(" + Long.toHexString(characters) + ")", x.put(characters),
-                    LocoFrames.BAD_VALUE);
-        }
-        Due.is("put still appends behind the 12", x.put(Due.packed("3")), 4);
-        Due.is("carryOut(): t123", x.carryOut(), 0);
     }
 
     private static void putUpTo80() {

@@ -9,8 +9,7 @@ public final class TrackTest {
         speedTurnsRound();
         tenthsAreKept();
         passRefuses();
-        passEndsAt99999();
-        blockTellsAndRefuses();
+        blockTells();
         countTellsAndRefuses();
         Due.end();
     }
@@ -143,27 +142,7 @@ public final class TrackTest {
         Due.is("count(0)", x.count(0), 99);
     }
 
-    /** Beyond the 512 calls for which answers are promised: no shorter run of calls gets there. */
-    private static void passEndsAt99999() {
-        LocoFrames x = new LocoFrames();
-        x.loco(1, 20, 0, 10);
-        for (int i = 0; i < 1010; i++) {
-            x.pass(99);
-        }
-        Due.is("count(0)", x.count(0), 99990);
-        Due.is("pass(10)", x.pass(10), LocoFrames.NOT_POSSIBLE);
-        Due.is("pass(100)", x.pass(100), LocoFrames.BAD_VALUE);
-        Due.is("count(0) still", x.count(0), 99990);
-        Due.is("pass(9)", x.pass(9), 0);
-        String before = Due.whole(x);
-        Due.refused(x, before, "pass(1)", x.pass(1), LocoFrames.NOT_POSSIBLE);
-        Due.is("the bound does not matter to reaches()", x.reaches(1, 1), LocoFrames.NONE);
-        x.frame(1, 156, 157);
-        // n ticks are 3 * n * (n + 1) / 2 tenths, and 900 are needed.
-        Due.is("nor if it goes", x.reaches(1, 1), 24);
-    }
-
-    private static void blockTellsAndRefuses() {
+    private static void blockTells() {
         LocoFrames x = new LocoFrames();
         x.loco(1, 20, 0, 0);
         x.loco(2, 20, 0, 99);
@@ -175,12 +154,6 @@ public final class TrackTest {
             Due.is("block(" + block + ", 1)", x.block(block, 1), locos[block]);
             Due.is("block(" + block + ", 0)", x.block(block, 0), block == 1 ? 6 : 0);
         }
-        String before = Due.whole(x);
-        Due.refused(x, before, "block(-1, 0)", x.block(-1, 0), LocoFrames.NO_SUCH);
-        Due.refused(x, before, "block(8, 1)", x.block(8, 1), LocoFrames.NO_SUCH);
-        Due.refused(x, before, "block(8, 2)", x.block(8, 2), LocoFrames.NO_SUCH);
-        Due.refused(x, before, "block(0, 2)", x.block(0, 2), LocoFrames.BAD_VALUE);
-        Due.refused(x, before, "block(0, -1)", x.block(0, -1), LocoFrames.BAD_VALUE);
     }
 
     private static void countTellsAndRefuses() {

@@ -22,6 +22,7 @@ public final class UndoEdgesTest {
         restoreKeepsTheSlot();
         restoreKeepsThePadAndTheHistory();
         restoreOfFewerAndOfMoreLocos();
+        twentyOrdersComeBack();
         Due.end();
     }
 
@@ -34,10 +35,17 @@ public final class UndoEdgesTest {
             for (int left = changes - 1; left >= 0; left--) {
                 Due.is(scene + ": undo()", x.undo(), left);
             }
-            String before = Due.whole(x);
-            Due.refused(x, before, scene + ": undo() of none", x.undo(), LocoFrames.NOT_POSSIBLE);
-            Due.refused(x, before, scene + ": undo() of none again", x.undo(), LocoFrames.NOT_POSSIBLE);
+            Scene.refusedBy(() -> undone(scene), scene + ": undo() of none", LocoFrames::undo, LocoFrames.NOT_POSSIBLE);
         }
+    }
+
+    private static LocoFrames undone(Scene scene) {
+        LocoFrames x = scene.made();
+        int changes = x.count(11);
+        for (int i = 0; i < changes; i++) {
+            x.undo();
+        }
+        return x;
     }
 
     /** A history of at most 6 states: with one more, the oldest one is dropped. */
@@ -104,13 +112,18 @@ public final class UndoEdgesTest {
                 Due.is(name + " is one change", x.count(11), Math.min(6, kept + 1));
                 Due.is(name + ": undo()", x.undo(), Math.min(5, kept));
                 Due.same(name + " is undone", Due.seen(x), before);
-                LocoFrames y = scene.made();
-                while (x.count(11) > 0) {
-                    x.undo();
-                    y.undo();
-                    Due.same(name + ": the states before it", Due.seen(x), Due.seen(y));
-                }
+                sameStatesBefore(name, x, scene.made());
             }
+        }
+    }
+
+    /** As far back as x can be undone. */
+    private static void sameStatesBefore(String name, LocoFrames x, LocoFrames y) {
+        int changes = x.count(11);
+        for (int i = 0; i < changes; i++) {
+            x.undo();
+            y.undo();
+            Due.same(name + ": the states before it", Scene.brief(x), Scene.brief(y));
         }
     }
 
@@ -149,11 +162,7 @@ public final class UndoEdgesTest {
                 Due.is(scene + ": an error", answer < 0 ? 1 : 0, 1);
             }
             Due.same(scene + ": nothing is recorded", Due.whole(x), before);
-            LocoFrames y = scene.made();
-            for (int i = 0; i < 6; i++) {
-                Due.is(scene + ": undo()", x.undo(), y.undo());
-                Due.same(scene + ": the states", Due.seen(x), Due.seen(y));
-            }
+            Due.same(scene + ": nothing is dropped", Scene.past(x), Scene.past(scene.made()));
         }
     }
 
@@ -219,12 +228,13 @@ public final class UndoEdgesTest {
     private static void undoOfEverythingElse() {
         for (Scene scene : Scene.values()) {
             LocoFrames x = scene.made();
-            String before = Due.seen(x);
+            String before = Due.seen(scene.made());
             x.wipe();
             Due.write(x, "f0,156,156;f0,67,67;f0,1,0;t99;s0*9;o1:1!3;t50");
             Due.is(scene + ": carryOut()", x.carryOut() > 3 ? 1 : 0, 1);
             x.undo();
             Due.same(scene + ": one undo", Due.seen(x), before);
+            x = scene.made();
             x.lift(scene.someLoco());
             x.loco(scene.someLoco(), 1, 1, 1);
             x.noise(9);
@@ -248,15 +258,16 @@ public final class UndoEdgesTest {
         for (Scene scene : Scene.values()) {
             for (int slot = 0; slot <= 1; slot++) {
                 LocoFrames x = scene.made();
-                String whole = Due.whole(x);
-                String seen = Due.seen(x);
-                Due.is(scene + ": save(" + slot + ")", x.save(slot), x.count(1));
-                Due.same(scene + ": nothing else is different", Due.whole(x), whole);
+                Due.is(scene + ": save(" + slot + ")", x.save(slot), scene.made().count(1));
+                Due.same(scene + ": nothing else is different", Due.whole(x), Due.whole(scene.made()));
                 LocoFrames y = scene.made();
-                Due.is(scene + ": the other slot", x.restore(1 - slot), y.restore(1 - slot));
-                Due.same(scene + ": what is in the other slot", Due.seen(x), Due.seen(y));
-                Due.is(scene + ": restore(" + slot + ")", x.restore(slot), scene.made().count(1));
-                Due.same(scene + ": what was saved", Due.seen(x), seen);
+                y.save(slot);
+                LocoFrames z = scene.made();
+                Due.is(scene + ": the other slot", y.restore(1 - slot), z.restore(1 - slot));
+                Due.same(scene + ": what is in the other slot", Due.seen(y), Due.seen(z));
+                y.pass(1);
+                Due.is(scene + ": restore(" + slot + ")", y.restore(slot), scene.made().count(1));
+                Due.same(scene + ": what was saved", Due.seen(y), Due.seen(scene.made()));
             }
         }
     }
@@ -308,11 +319,7 @@ public final class UndoEdgesTest {
             Due.is(scene + ": one change more", x.count(11), Math.min(6, kept + 1));
             x.undo();
             Due.same(scene + ": as before", Due.seen(x), Due.seen(y));
-            while (x.count(11) > 0) {
-                x.undo();
-                y.undo();
-                Due.same(scene + ": the states before it", Due.seen(x), Due.seen(y));
-            }
+            sameStatesBefore(scene + ": restore(1)", x, y);
         }
     }
 
@@ -328,20 +335,49 @@ public final class UndoEdgesTest {
         }
         x.shorts(0, 99);
         x.shorts(7, 1);
-        String seen = Due.seen(x);
+        String full = Scene.brief(x);
+        String none = Due.seen(new LocoFrames());
         x.save(1);
         Due.is("restore(0)", x.restore(0), 0);
-        Due.same("a new object", Due.seen(x), Due.seen(new LocoFrames()));
+        Due.same("a new object", Due.seen(x), none);
         Due.is("restore(1)", x.restore(1), 8);
-        Due.same("the full one", Due.seen(x), seen);
+        Due.same("the full one", Scene.brief(x), full);
         x.pass(1);
         x.lift(1);
         x.undo();
         x.undo();
-        Due.same("the full one, undone", Due.seen(x), seen);
+        Due.same("the full one, undone", Scene.brief(x), full);
         x.undo();
-        Due.same("a new object, undone", Due.seen(x), Due.seen(new LocoFrames()));
+        Due.same("a new object, undone", Due.seen(x), none);
         x.undo();
-        Due.same("the full one before both", Due.seen(x), seen);
+        Due.same("the full one before both", Scene.brief(x), full);
+    }
+
+    /** The last of 20 orders, and of 8 locos, after others stood where they stood. */
+    private static void twentyOrdersComeBack() {
+        for (int bySlot = 0; bySlot <= 1; bySlot++) {
+            LocoFrames x = new LocoFrames();
+            for (int i = 1; i <= 8; i++) {
+                x.loco(10 * i, 2 * i, i % 3, 97 * i);
+            }
+            for (int i = 0; i < 20; i++) {
+                x.order(10 + i, 130 + i, 1 + i % 3);
+            }
+            String seen = Due.seen(x);
+            x.save(0);
+            x.pass(2);
+            Due.is("a 19th", x.order(99, 255, 0), 19);
+            Due.is("a 20th", x.order(98, 254, 0), 20);
+            x.lift(80);
+            Due.is("an eighth", x.loco(90, 20, 0, 799), 8);
+            if (bySlot == 1) {
+                Due.is("restore(0)", x.restore(0), 8);
+            } else {
+                for (int left = 5; left >= 1; left--) {
+                    Due.is("undo()", x.undo(), left);
+                }
+            }
+            Due.same("all 20 and all 8", Due.seen(x), seen);
+        }
     }
 }

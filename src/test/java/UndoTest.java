@@ -11,7 +11,6 @@ public final class UndoTest {
         undoBringsBackWhatWentByForNoise();
         saveAndRestore();
         saveRefuses();
-        restoreRefuses();
         restoreIsAChange();
         aSlotIsKeptAndOverwritten();
         Due.end();
@@ -220,19 +219,6 @@ public final class UndoTest {
         }
         Due.is("nothing is in 0", x.restore(0), LocoFrames.NOT_POSSIBLE);
         Due.is("save of no locos", new LocoFrames().save(1), 0);
-    }
-
-    private static void restoreRefuses() {
-        LocoFrames x = busy();
-        String before = Due.whole(x);
-        int[] bad = {-1, 2, Integer.MAX_VALUE, Integer.MIN_VALUE};
-        for (int slot : bad) {
-            Due.refused(x, before, "restore(" + slot + ")", x.restore(slot), LocoFrames.BAD_VALUE);
-        }
-        Due.refused(x, before, "restore(0)", x.restore(0), LocoFrames.NOT_POSSIBLE);
-        Due.refused(x, before, "restore(1)", x.restore(1), LocoFrames.NOT_POSSIBLE);
-        x.save(0);
-        Due.refused(x, before, "restore(1), 0 saved", x.restore(1), LocoFrames.NOT_POSSIBLE);
     }
 
     private static void restoreIsAChange() {
