@@ -157,8 +157,8 @@ public final class TextsEdgesTest {
     private static void faultsOfNumbers() {
         String[] good = {"0", "1", "9", "10", "19", "99", "100", "109", "190", "199", "900", "998", "999"};
         String[] wrong = {"", "00", "01", "09", "000", "1000", "9999", "9990", "1001", "10000", "-1", "a", "1a", "99a",
-            "999a", "0a", " "};
-        int[] at = {0, 1, 1, 1, 1, 3, 3, 3, 3, 3, 0, 0, 1, 2, 3, 1, 0};
+            "999a", "0a", "/", "1/", "99/"};
+        int[] at = {0, 1, 1, 1, 1, 3, 3, 3, 3, 3, 0, 0, 1, 2, 3, 1, 0, 1, 2};
         for (String[] place : NUMBERS) {
             for (String number : good) {
                 String text = place[0] + number + place[1];
@@ -168,7 +168,7 @@ public final class TextsEdgesTest {
                 boolean whole = place[1].startsWith(";");
                 Due.is("fault of " + place[0] + number, begun.fault(), whole ? LocoFrames.NONE : due);
             }
-            for (int i = 0; i < wrong.length - 1; i++) {
+            for (int i = 0; i < wrong.length; i++) {
                 String text = place[0] + wrong[i] + place[1];
                 Due.is("fault of " + text, with(text).fault(), place[0].length() + at[i]);
             }
