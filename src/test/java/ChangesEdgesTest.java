@@ -316,7 +316,7 @@ public final class ChangesEdgesTest {
         for (int block = 0; block < 8; block++) {
             LocoFrames x = new LocoFrames();
             int last = 0;
-            int[] good = {0, 99, 98, 1, 0, 0, 50, 99};
+            int[] good = {0, 99, 98, 99, 1, 2, 1, 0, 0, 1, 50, 51, 99};
             for (int ticks : good) {
                 Due.is("shorts(" + block + ", " + ticks + ")", x.shorts(block, ticks), last);
                 for (int other = 0; other < 8; other++) {

@@ -9,6 +9,7 @@ public final class FramesTest {
         noiseDoesNotSpoilFrame();
         ordersAreRanked();
         ordersGoOneInATick();
+        anOrderToAllIsHeardByAll();
         frameIsHeard();
         everyDatum();
         stopAtOnce();
@@ -150,6 +151,27 @@ public final class FramesTest {
         Due.is("count(2)", x.count(2), 0);
         Due.is("count(4)", x.count(4), 3);
         Due.is("pass(9) without orders", x.pass(9), 0);
+    }
+
+    /** The address 0 means all locos, also in a frame that the station sends. */
+    private static void anOrderToAllIsHeardByAll() {
+        LocoFrames x = new LocoFrames();
+        for (int i = 0; i < 8; i++) {
+            x.loco(10 + i, 1, LocoFrames.EVEN, 100 * i + 50);
+        }
+        x.shorts(0, 9);
+        x.shorts(7, 9);
+        x.order(0, 128 + 3, 0);
+        x.order(0, 64 + 1, 0);
+        Due.is("pass(2)", x.pass(2), 2);
+        for (int i = 0; i < 8; i++) {
+            boolean hears = i > 0 && i < 7;
+            Due.is("heard by number " + i, x.of(10 + i, 10), hears ? 2 : 0);
+            Due.is("step of number " + i, x.of(10 + i, 6), hears ? 3 : 0);
+            Due.is("lights of number " + i, x.of(10 + i, 8), hears ? 1 : 0);
+            Due.is("speed of number " + i, x.of(10 + i, 4), hears ? 1030 : 1000);
+        }
+        Due.is("two frames, not one for each loco", x.count(4), 2);
     }
 
     private static void frameIsHeard() {

@@ -13,6 +13,7 @@ import java.util.regex.Pattern;
 
 /** The face of the class, and what can be looked up of the rules of LANGUAGE.md. */
 public final class LanguageTest {
+    /** The names of the public methods, and how many numbers each of them takes: int, but for put's long. */
     private static final List<String> METHODS = List.of("loco/4", "lift/1", "noise/1", "order/3", "frame/3", "shorts/2",
         "pass/1", "of/2", "address/1", "waiting/2", "block/2", "count/1", "reaches/2", "settles/1", "meets/2",
         "stepFor/2", "put/1", "wipe/0", "fault/0", "carryOut/0", "undo/0", "save/1", "restore/1");
@@ -39,6 +40,9 @@ public final class LanguageTest {
                 found.add(method.getName() + "/" + method.getParameterCount());
                 names.add(method.getName());
                 Due.same("what " + method + " returns", method.getReturnType().getName(), "int");
+                for (Class<?> taken : method.getParameterTypes()) {
+                    Due.same("what " + method + " takes", taken.getName(), method.getName().equals("put") ? "long" : "int");
+                }
                 Due.is("static: " + method, Modifier.isStatic(method.getModifiers()) ? 1 : 0, 0);
             } else {
                 Due.is("private: " + method, Modifier.isPrivate(method.getModifiers()) ? 1 : 0, 1);
@@ -53,12 +57,19 @@ public final class LanguageTest {
         Constructor<?>[] constructors = LocoFrames.class.getDeclaredConstructors();
         Due.is("constructors", constructors.length, 1);
         Due.is("its parameters", constructors[0].getParameterCount(), 0);
+        Due.is("it is public", constructors[0].getModifiers(), Modifier.PUBLIC);
         Due.is("a public final class", LocoFrames.class.getModifiers(), Modifier.PUBLIC | Modifier.FINAL);
+        Due.same("what it extends", LocoFrames.class.getSuperclass().getName(), "java.lang.Object");
+        Due.is("what it implements", LocoFrames.class.getInterfaces().length, 0);
     }
 
     private static void constants() throws ReflectiveOperationException {
+        int how = Modifier.PUBLIC | Modifier.STATIC | Modifier.FINAL;
         for (int i = 0; i < VALUES.length; i++) {
-            Due.is(CONSTANTS.get(i), LocoFrames.class.getField(CONSTANTS.get(i)).getInt(null), VALUES[i]);
+            Field constant = LocoFrames.class.getField(CONSTANTS.get(i));
+            Due.is(CONSTANTS.get(i), constant.getInt(null), VALUES[i]);
+            Due.same("the type of " + constant, constant.getType().getName(), "int");
+            Due.is("public static final: " + constant, constant.getModifiers(), how);
         }
         for (Field field : LocoFrames.class.getDeclaredFields()) {
             boolean open = !Modifier.isPrivate(field.getModifiers());

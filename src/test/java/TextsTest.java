@@ -10,6 +10,8 @@ public final class TextsTest {
         carryOutDoesEachOrder();
         carryOutStopsAtAnError();
         carryOutIsOneChange();
+        framesOfATextAreNotSpoiled();
+        shortsOfATextReplace();
         carryOutRefuses();
         carryOutAFullPad();
         Due.end();
@@ -161,6 +163,29 @@ public final class TextsTest {
         Due.is("a change all the same", x.count(11), 2);
         Due.is("the pad is empty", x.count(10), 0);
         Due.same("nothing is done", Due.seen(x), before);
+    }
+
+    /** Noise spoils what the station sends; an "f" comes to the track as by frame(). */
+    private static void framesOfATextAreNotSpoiled() {
+        LocoFrames x = with("f1,65,64;t1;f1,66,67;o1:67!0;t1");
+        x.loco(1, 1, 0, 0);
+        x.noise(1);
+        x.pass(5);
+        Due.is("carryOut()", x.carryOut(), 5);
+        Due.is("both frames are heard", x.of(1, 10), 2);
+        Due.is("lights", x.of(1, 8), 2);
+        Due.is("the order is spoiled", x.count(6), 1);
+        Due.is("and nothing else", x.count(5), 1);
+        Due.is("count(4)", x.count(4), 3);
+    }
+
+    private static void shortsOfATextReplace() {
+        LocoFrames x = with("s2*40;s2*41;s2*7;s3*0");
+        x.shorts(2, 50);
+        x.shorts(3, 6);
+        Due.is("carryOut()", x.carryOut(), 4);
+        Due.is("the last one stands", x.block(2, 0), 7);
+        Due.is("0 ends it", x.block(3, 0), 0);
     }
 
     private static void carryOutRefuses() {

@@ -5,6 +5,8 @@ public final class TrackTest {
         shortsRefuse();
         aShortStops();
         aLocoRunsIntoAShort();
+        aLocoIsPutAndLiftedInAShort();
+        manyLocosInOneBlock();
         momentumByMass();
         speedTurnsRound();
         tenthsAreKept();
@@ -80,6 +82,39 @@ public final class TrackTest {
         x.pass(1);
         Due.is("it stands then", x.of(1, 2), 108);
         Due.is("its speed is 0 then", x.of(1, 4), 1000);
+    }
+
+    private static void aLocoIsPutAndLiftedInAShort() {
+        LocoFrames x = new LocoFrames();
+        x.shorts(6, 2);
+        Due.is("put in a short", x.loco(1, 1, LocoFrames.EVEN, 650), 1);
+        Due.is("it does not hear", x.frame(1, 129, 128), 0);
+        Due.is("lifted there", x.lift(1), 0);
+        Due.is("put there again", x.loco(1, 1, LocoFrames.EVEN, 650), 1);
+        x.pass(2);
+        Due.is("it hears when the short is over", x.frame(1, 129, 128), 1);
+        x.pass(1);
+        Due.is("and goes", x.of(1, 2), 651);
+        Due.is("lifted while it goes", x.lift(1), 0);
+    }
+
+    /** Locos in one block, or at one place, do not mind each other. */
+    private static void manyLocosInOneBlock() {
+        LocoFrames x = new LocoFrames();
+        for (int i = 1; i <= 8; i++) {
+            Due.is("all at one place: " + i, x.loco(i, 1, LocoFrames.EVEN, 297), i);
+        }
+        x.frame(0, 129, 129);
+        x.frame(8, 2, 8 ^ 2);
+        for (int tick = 1; tick <= 8; tick++) {
+            x.pass(1);
+            for (int i = 1; i <= 7; i++) {
+                Due.is("tick " + tick + ": the place of " + i, x.of(i, 2), 297 + tick);
+            }
+            Due.is("tick " + tick + ": the place of 8", x.of(8, 2), 297 - 2 * tick);
+            Due.is("tick " + tick + ": in block 2", x.block(2, 1), tick < 3 ? 8 : 1);
+            Due.is("tick " + tick + ": in block 3", x.block(3, 1), tick < 3 ? 0 : 7);
+        }
     }
 
     private static void momentumByMass() {

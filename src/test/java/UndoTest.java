@@ -252,5 +252,10 @@ public final class UndoTest {
         x.lift(5);
         Due.is("restore(0), overwritten", x.restore(0), 1);
         Due.same("the later one", Due.seen(x), second);
+        x.lift(5);
+        Due.is("save(0) without locos", x.save(0), 0);
+        x.loco(6, 6, 1, 6);
+        Due.is("restore(0) without locos", x.restore(0), 0);
+        Due.is("no loco is in it", x.address(0), LocoFrames.NO_SUCH);
     }
 }

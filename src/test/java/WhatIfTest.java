@@ -4,7 +4,10 @@ public final class WhatIfTest {
         reachesCountsTicks();
         reachesUpTo1000();
         reachesSendsOrdersAndMindsShorts();
+        reachesAndMeetsSendOrdersToAll();
+        reachesAndMeetsAreAtOnceWhileLocosGo();
         reachesMindsNoise();
+        reachesAndMeetsMindWhenNoiseSpoiledLast();
         reachesRefuses();
         settlesCountsTicks();
         settlesMindsNeitherOrdersNorShorts();
@@ -12,6 +15,7 @@ public final class WhatIfTest {
         meetsCountsTicks();
         meetsUpTo1000();
         meetsSendsOrders();
+        meetsMindsNoise();
         meetsRefuses();
         stepForFindsTheLeast();
         stepForRefuses();
@@ -92,6 +96,32 @@ public final class WhatIfTest {
         Due.is("the short is as it was", y.block(0, 0), 99);
     }
 
+    private static void reachesAndMeetsSendOrdersToAll() {
+        LocoFrames x = new LocoFrames();
+        x.loco(1, 1, LocoFrames.EVEN, 95);
+        x.loco(2, 1, LocoFrames.EVEN, 190);
+        x.order(0, 128 + 1, 0);
+        // In the tick 0 both go: after n ticks 1 is at 95 + n, 2 at 190 + n.
+        Due.is("1 goes", x.reaches(1, 1), 5);
+        Due.is("2 goes", x.reaches(2, 2), 10);
+        Due.is("1 comes to where 2 still is", x.meets(1, 2), 5);
+        x.order(0, 31, 0);
+        Due.is("1 is stopped again", x.reaches(1, 1), LocoFrames.NONE);
+        Due.is("2 is stopped again", x.reaches(2, 2), LocoFrames.NONE);
+        Due.is("both are", x.meets(1, 2), LocoFrames.NONE);
+    }
+
+    private static void reachesAndMeetsAreAtOnceWhileLocosGo() {
+        LocoFrames x = rolling(1, 98, 128 + 28);
+        x.loco(2, 1, LocoFrames.EVEN, 199);
+        x.frame(2, 28, 2 ^ 28);
+        x.pass(1);
+        Due.is("1 is in block 1 now", x.reaches(1, 1), 0);
+        Due.is("2 is in block 1 still", x.reaches(2, 1), 0);
+        Due.is("both are", x.meets(1, 2), 0);
+        Due.is("behind 1", x.reaches(1, 0) > 0 ? 1 : 0, 1);
+    }
+
     private static void reachesMindsNoise() {
         LocoFrames x = new LocoFrames();
         x.loco(1, 1, LocoFrames.EVEN, 95);
@@ -106,6 +136,32 @@ public final class WhatIfTest {
         x.noise(3);
         Due.is("the third comes before it", x.reaches(1, 1), 7);
         Due.is("count(6)", x.count(6), 0);
+    }
+
+    /** Noise spoiled the frame of the tick 3: with NOISE 3, that of the tick 6 is the next one that it spoils. */
+    private static void reachesAndMeetsMindWhenNoiseSpoiledLast() {
+        for (int before = 0; before <= 3; before++) {
+            LocoFrames x = new LocoFrames();
+            x.noise(3);
+            x.pass(3);
+            x.order(9, 0, 0);
+            x.pass(1);
+            Due.is("the frame of the tick 3 is spoiled", x.count(6), 1);
+            if (before > 0) {
+                x.pass(before);
+            }
+            x.loco(1, 1, LocoFrames.EVEN, 95);
+            x.loco(2, 1, LocoFrames.EVEN, 150);
+            x.order(1, 128 + 1, 0);
+            int due = before < 2 ? 5 : LocoFrames.NONE;
+            Due.is("sent in the tick " + (4 + before) + ": reaches", x.reaches(1, 1), due);
+            Due.is("sent in the tick " + (4 + before) + ": meets", x.meets(1, 2), due);
+            x.order(1, 128 + 1, 0);
+            due = before < 2 ? 5 : 6;
+            Due.is("one more, a tick later: reaches", x.reaches(1, 1), due);
+            Due.is("one more, a tick later: meets", x.meets(2, 1), due);
+            Due.is("still one is spoiled", x.count(6), 1);
+        }
     }
 
     private static void reachesRefuses() {
@@ -195,6 +251,22 @@ public final class WhatIfTest {
         Due.is("2 is held and deaf", x.meets(1, 2), 4);
         Due.is("count(2)", x.count(2), 2);
         Due.is("count(4)", x.count(4), 0);
+    }
+
+    private static void meetsMindsNoise() {
+        LocoFrames x = new LocoFrames();
+        x.loco(1, 1, LocoFrames.EVEN, 95);
+        x.loco(2, 1, LocoFrames.EVEN, 150);
+        x.order(1, 64, 0);
+        x.order(1, 64, 0);
+        x.order(1, 128 + 1, 0);
+        int[] due = {7, LocoFrames.NONE, LocoFrames.NONE, 7};
+        for (int noise = 0; noise <= 3; noise++) {
+            x.noise(noise);
+            Due.is("NOISE " + noise + ": meets(1, 2)", x.meets(1, 2), due[noise]);
+            Due.is("NOISE " + noise + ": meets(2, 1)", x.meets(2, 1), due[noise]);
+        }
+        Due.is("count(6)", x.count(6), 0);
     }
 
     private static void meetsRefuses() {
