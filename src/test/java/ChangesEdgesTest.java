@@ -14,6 +14,7 @@ public final class ChangesEdgesTest {
         aNewLocoHasNothingOfAnOldOne();
         liftTakes();
         liftRefuses();
+        locoAndLiftLeaveAllElse();
         noiseTakes();
         noiseRefuses();
         orderTakes();
@@ -196,6 +197,35 @@ public final class ChangesEdgesTest {
         }
     }
 
+    /** Ticks, shorts, orders, NOISE, and when noise spoiled last, stay as the only loco goes and comes. */
+    private static void locoAndLiftLeaveAllElse() {
+        LocoFrames x = new LocoFrames();
+        x.loco(7, 1, LocoFrames.EVEN, 50);
+        x.noise(4);
+        x.pass(4);
+        x.order(7, 64, 0);
+        x.pass(3);
+        x.frame(7, 1, 1);
+        x.shorts(5, 60);
+        x.order(7, 65, 1);
+        x.order(0, 66, 3);
+        int[] due = {7, 0, 2, 4, 2, 2, 1, 1, 0, 10000, 0, 6};
+        Due.is("lift(7)", x.lift(7), 0);
+        for (int what = 0; what < 12; what++) {
+            Due.is("without locos: count(" + what + ")", x.count(what), due[what]);
+        }
+        due[1] = 1;
+        Due.is("loco(8)", x.loco(8, 1, LocoFrames.EVEN, 50), 1);
+        for (int what = 0; what < 12; what++) {
+            Due.is("with another one: count(" + what + ")", x.count(what), due[what]);
+        }
+        Due.is("block(5, 0)", x.block(5, 0), 60);
+        Due.is("the tick 7", x.pass(1), 1);
+        Due.is("it is not spoiled", x.of(8, 8), 2);
+        Due.is("the tick 8", x.pass(1), 1);
+        Due.is("it is spoiled, four ticks after that of the tick 4", x.count(6), 2);
+    }
+
     /** Promise 4. */
     private static void noiseTakes() {
         LocoFrames x = new LocoFrames();
@@ -357,6 +387,9 @@ public final class ChangesEdgesTest {
         Due.is("pass(99)", x.pass(99), 0);
         Due.is("100 ticks", x.count(0), 100);
         Due.is("two changes", x.count(11), 2);
+        x.shorts(2, 99);
+        x.pass(60);
+        Due.is("a short is 60 ticks shorter, also without locos", x.block(2, 0), 39);
         LocoFrames y = Scene.FULL.made();
         Due.is("20 orders, 19 ticks", y.pass(19), 19);
         Due.is("one waits", y.count(2), 1);
